@@ -38,7 +38,8 @@ public final class ModelTest {
         Model model = new Model();
         int calls = 0;
         List<String> made = new ArrayList<>();
-        while (calls < 500) {
+        // a text and its call are 27 calls at most: none goes beyond an object's 512th
+        while (calls < 484) {
             if (dice.nextInt(model.kinds.isEmpty() ? 3 : 40) == 0) {
                 String text = machineText(dice);
                 calls += type(real, model, text, dice);
