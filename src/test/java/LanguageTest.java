@@ -29,6 +29,7 @@ public final class LanguageTest {
         nested();
         source();
         room();
+        longUse();
         System.out.println(wrong == 0 ? "the rules are kept" : wrong + " rules are broken");
         if (wrong != 0) {
             System.exit(1);
@@ -126,5 +127,19 @@ public final class LanguageTest {
         }
         long after = counter.getCurrentThreadAllocatedBytes();
         due("512 calls make next to nothing: " + (after - before) + " bytes, " + sum, after - before < 20000);
+    }
+
+    /** Behind the 512th call what is answered is free, but no call may throw or fail to end (rule 7). */
+    private static void longUse() {
+        TreeActs x = new TreeActs();
+        long sum = 0;
+        for (int i = 0; i < 3000; i++) {
+            for (char letter : (i % 2 == 0 ? "f-0" : "s01,w1-").toCharArray()) {
+                sum += x.letter(letter);
+            }
+            sum += x.machine() + x.letter('a') + x.word(i % 3) + x.times(i % 3, i % 3, 1) + x.see(0, i % 5, true);
+            sum += x.image() + x.restore() + x.order(i % 4) + x.aim(0, i % 3, i % 4 - 1) + x.change(0, i % 6);
+        }
+        due("an object can be used on and on: " + sum, x.digest() == x.digest());
     }
 }

@@ -13,6 +13,7 @@ public final class RefusalsTest {
     private static final int[] WORDS = {Due.LEAST, -2, -1, 0, 1, 2, 3, 4, Due.MOST};
     private static final int[] STATES = {Due.LEAST, -2, -1, 0, 1, 2, 3, 5, 6, 7, Due.MOST};
     private static final int[] FEW = {Due.LEAST, -2, -1, 0, 1, 2, 3, 4, 5, 6, 7, 8, 9, Due.MOST};
+    private static final int[] ROWS = {Due.LEAST, -1, 0, 1, 2, 128, 255, 256, 4095, 4096, Due.MOST};
     private static final int[] LENGTHS = {Due.LEAST, -1, 0, 1, 7, 8, 9, 11, 12, 13, 31, 32, 33, Due.MOST};
     private static final int[] CODES = {Due.LEAST, -1, 0, 1, 'a', 's', 126, 127, 128, 256, Due.MOST};
     private static final int[] TIMES = {Due.LEAST, -1, 0, 1, 2, 29, 30, 31, Due.MOST};
@@ -83,7 +84,7 @@ public final class RefusalsTest {
             case "change": return new int[][] {STATES, FEW};
             case "sign": return new int[][] {WORDS, FEW};
             case "act":
-            case "round": return new int[][] {WORDS, {Due.LEAST, -1, 0, 1, 2, 128, 255, 256, 4095, 4096, Due.MOST}, LENGTHS};
+            case "round": return new int[][] {WORDS, ROWS, LENGTHS};
             case "flips": return new int[][] {WORDS, FEW};
             case "alike":
             case "undo": return new int[][] {WORDS, WORDS};

@@ -344,7 +344,8 @@ public final class SeenBoundariesTest {
     }
 
     private static void drawsWrapAround() {
-        due.sentence(23, "1103515245 times it and 12345, its rest by 2 to the 31; then that by 65536 (rounded down), its rest");
+        due.sentence(23, "1103515245 times it and 12345, its rest by 2 to the 31; then that by 65536 (rounded down), "
+            + "its rest");
         TreeActs x = Due.with("f-0");
         BigInteger seed = BigInteger.valueOf(Due.MOST);
         for (int i = 0; i < 40; i++) {

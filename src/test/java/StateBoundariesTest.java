@@ -29,6 +29,7 @@ public final class StateBoundariesTest {
         aimOfAStillIsTold();
         changeEveryKind();
         changeOfWrongNumbers();
+        aimAndChangeTouchTheStateAlone();
         due.end();
     }
 
@@ -133,6 +134,10 @@ public final class StateBoundariesTest {
             TreeActs itself = Due.with(KINDS.charAt(kind) + "0-," + KINDS.charAt(kind) + "-1");
             due.is("itself by NEXT for 0", itself.state(0, 3), 1);
             due.is("itself by NEXT for 1", itself.state(1, 3), 2);
+            TreeActs both = Due.with(KINDS.charAt(kind) + "11," + KINDS.charAt(kind) + "11");
+            due.is("one by both", both.state(0, 3), 2);
+            due.is("itself by both", both.state(1, 3), 2);
+            due.is("CORE", both.count(2), 1);
         }
     }
 
@@ -388,5 +393,29 @@ public final class StateBoundariesTest {
             due.is("nothing is changed", x.digest(), before);
         }
         due.is("change(0, 0) without a MACHINE", new TreeActs().change(0, 0), Due.UNKNOWN);
+    }
+
+    private static void aimAndChangeTouchTheStateAlone() {
+        due.sentence(20, "A NEXT of a STATE is another one; A STATE is of another KIND: and no more");
+        TreeActs x = Due.with("s01,f1-,o--", "aB", "cc", "A");
+        x.see(0, 0, true);
+        x.see(1, 3, false);
+        x.image();
+        Due.type(x, "xy");
+        long before = x.digest();
+        x.aim(0, 1, 2);
+        x.change(1, 3);
+        due.wordIs(x, 0, "aB");
+        due.wordIs(x, 1, "cc");
+        due.wordIs(x, 2, "A");
+        due.is("SEEN", x.count(4), 2);
+        due.is("SORTS", x.state(0, 6), 22);
+        due.is("SORTS of the changed one", x.state(1, 6), 7);
+        due.is("letters of the page", x.count(5), 2);
+        due.is("MACHINES read", x.count(6), 1);
+        x.aim(0, 1, 1);
+        x.change(1, 1);
+        due.is("put back, all is as it was", x.digest(), before);
+        due.is("the IMAGE is kept", x.restore(), 3);
     }
 }

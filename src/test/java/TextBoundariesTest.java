@@ -447,10 +447,11 @@ public final class TextBoundariesTest {
     }
 
     private static void wordIsReduced() {
-        due.sentence(6, "as long as a LETTER stands right ahead of its own INVERSE (or the other way about) both are left "
-            + "out");
+        due.sentence(6, "as long as a LETTER stands right ahead of its own INVERSE (or the other way about) both are "
+            + "left out");
         String[] pages = {"aA", "Aa", "fF", "Ff", "aAa", "AaA", "aaAA", "AAaa", "abBA", "ABba", "abcCBA", "aBbA", "aa",
-            "AA", "ab", "aB", "abAB", "abA", "aAbB", "aAbBcCdD", "abcdDCBA", "abcddCBA", "abcdDCBa", "baAb", "AbBabBaa"};
+            "AA", "ab", "aB", "abAB", "abA", "aAbB", "aAbBcCdD", "abcdDCBA", "abcddCBA", "abcdDCBa", "baAb",
+            "AbBabBaa"};
         String[] left = {"", "", "", "", "a", "A", "", "", "", "", "", "", "aa",
             "AA", "ab", "aB", "abAB", "abA", "", "", "", "abcddCBA", "aa", "bb", "aa"};
         for (int i = 0; i < pages.length; i++) {

@@ -319,7 +319,8 @@ public final class WholeBoundariesTest {
         for (int letters = 0; letters <= 24; letters++) {
             TreeActs without = new TreeActs();
             Due.type(without, page.substring(0, letters));
-            due.is("digest() of " + letters, without.digest(), dueDigest(without, page.substring(0, letters)).longValue());
+            BigInteger whole = dueDigest(without, page.substring(0, letters));
+            due.is("digest() of " + letters, without.digest(), whole.longValue());
             TreeActs x = Due.with("f-0,o--", "aB");
             Due.type(x, page.substring(0, letters));
             due.is("digest() of " + letters, x.digest(), dueDigest(x, page.substring(0, letters)).longValue());

@@ -356,8 +356,8 @@ public final class WordBoundariesTest {
     }
 
     private static void nothingFortyOfThem() {
-        due.sentence(13, "till one flips SIGN 0 of its ROWS, or all are gone through, or 40 of them are and there is another "
-            + "one (it is not told)");
+        due.sentence(13, "till one flips SIGN 0 of its ROWS, or all are gone through, or 40 of them are and there is "
+            + "another one (it is not told)");
         dueNothing("s14,s23,s-3,s35,s-1,s20", "CCF", 39, 1);
         dueNothing("s12,s42,s30,s41,s00", "BEbD", 39, 1);
         dueNothing("s51,s32,s5-,s-4,s05,s31", "AdaBf", 40, 1);
