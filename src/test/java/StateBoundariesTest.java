@@ -19,6 +19,7 @@ public final class StateBoundariesTest {
         leastAlikeIsItself();
         alikeForAllRows();
         unlikeOnlyFarBehind();
+        alikeGoesByTheMachineNow();
         classesCountOneThatDoesNothing();
         allAreStates();
         asOfWrongNumbers();
@@ -223,6 +224,28 @@ public final class StateBoundariesTest {
         chain.change(5, 3);
         due.is("all do nothing", chain.count(1), 1);
         due.is("the last one", chain.state(5, 5), 0);
+    }
+
+    /** What was told of another machine, or ahead of a change, is no matter: also where states lead round for ever. */
+    private static void alikeGoesByTheMachineNow() {
+        due.sentence(7, "Two STATES are ALIKE, if they do the same to all ROWS: as they are now");
+        TreeActs round = Due.with("s11,o00");
+        due.is("unlike", round.count(1), 2);
+        round.change(1, 0);
+        due.is("both lead round and do nothing", round.count(1), 1);
+        due.is("the least one", round.state(1, 5), 0);
+        TreeActs still = Due.with("s11,o00,r--");
+        due.is("unlike", still.count(1), 3);
+        still.change(1, 0);
+        due.is("as a STILL does", still.count(1), 1);
+        due.is("the least one", still.state(2, 5), 0);
+        still.change(1, 4);
+        due.is("unlike again", still.count(1), 3);
+        TreeActs another = Due.with("s1-,s2-,s3-,s4-,s5-,o--");
+        due.is("all unlike", another.count(1), 6);
+        Due.type(another, "s11,s22,s33,s44,s55,s00");
+        another.machine();
+        due.is("another machine, all alike", another.count(1), 1);
     }
 
     private static void classesCountOneThatDoesNothing() {
